@@ -10,7 +10,6 @@ public final class Peepholery {
     private static final int MOST_TARGETS = 10;
     private static final int MOST_RULES = 12;
     private static final int MOST_REWRITES = 50;
-    private static final int MOST_CANDIDATES = 30000;
     private static final int MOST_SHIFT = 10;
     private static final int MOST_WINDOW = 4;
 
@@ -378,7 +377,7 @@ public final class Peepholery {
             throw new IllegalArgumentException();
         }
         search.choose(told);
-        if (search.programsOf(most) > MOST_CANDIDATES) {
+        if (search.programsOf(most) > Search.MOST_PROGRAMS) {
             throw new UnsupportedOperationException();
         }
         refuseTooManyStates(told.machine, told.named);
@@ -1392,7 +1391,7 @@ public final class Peepholery {
             for (int instead = 0; instead < machine.modulus; instead++) {
                 left.takeWith(code, constant, instead);
                 right.takeWith(other, constant, instead);
-                if (firstDifference(machine, left, right, live) >= 0) {
+                if (instead != constant && firstDifference(machine, left, right, live) >= 0) {
                     return false;
                 }
             }
@@ -1578,6 +1577,7 @@ public final class Peepholery {
 
     /** Seeks programs for targets. */
     private static final class Search {
+        static final int MOST_PROGRAMS = 30000;
         private static final int MOST_CHOICES = Instruction.LETTERS * 3 * (3 + 32);
         private static final int WALKED_STATES = 64;
         /** How many instructions can be taken for the target that was chosen for last. */
@@ -1658,7 +1658,7 @@ public final class Peepholery {
         boolean findShortest(Target target, int most) {
             expect(target, target.named, Bench.statesOf(target.machine, target.named));
             for (int length = 0; length <= most; length++) {
-                long all = programsOf(length);
+                long all = Math.min(programsOf(length), MOST_PROGRAMS);
                 for (int number = 0; number < all; number++) {
                     spell(number, length);
                     if (meets(target, tried, target.named)) {

@@ -9,6 +9,7 @@ public final class CostTest {
         latencies();
         ports();
         fronts();
+        narrowFronts();
         wrongFronts();
         Check.end("CostTest");
     }
@@ -105,6 +106,23 @@ public final class CostTest {
         int single = Check.code(p, 0, "l0");
         Check.due(25, "but equal ones are", 1, () -> p.front(looped, 1));
         Check.due(25, "and it is none of theirs", 1, () -> p.front(single, 1));
+    }
+
+    /** Each of the three is what one program is better in by one, and another one worse. */
+    private static void narrowFronts() {
+        for (int kind = 0; kind < 3; kind++) {
+            Peepholery p = Check.bench(3, 0);
+            int more = kind;
+            p.tell(0, 'x', more == 0 ? 5 : 6, more == 1 ? 5 : 6, 0, more == 2 ? 5 : 6);
+            p.tell(0, 's', more == 0 ? 6 : 5, more == 1 ? 6 : 5, 0, more == 2 ? 6 : 5);
+            int turned = Check.code(p, 0, "x0r0");
+            Check.code(p, 0, "s0r0");
+            Check.due(25, "better and worse by one", 2, () -> p.front(turned, 1));
+            p.tell(0, 's', 6, 6, 0, 6);
+            Check.due(25, "better in one, as good else", 1, () -> p.front(turned, 1));
+            p.tell(0, 'x', 6, 6, 0, 6);
+            Check.due(25, "as good in all", 2, () -> p.front(turned, 1));
+        }
     }
 
     private static void wrongFronts() {

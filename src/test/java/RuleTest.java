@@ -254,6 +254,9 @@ public final class RuleTest {
         Peepholery q = ruled("x0#3 x0#3", "", 9);
         q.quirk(0, 0, true);
         Check.due(44, "not equal any more", false, () -> q.prove(0));
+        Peepholery r = ruled("s0#1 x0#3 x0#3", "s0#1", 9);
+        r.quirk(0, 0, true);
+        Check.due(44, "not equal in the first state", false, () -> r.prove(0));
         Check.due(43, "gone", false, () -> q.isValid(0));
         Check.due(44, "gone for good", Check.UNSUPPORTED, () -> q.prove(0));
         q.quirk(0, 0, false);

@@ -6,6 +6,7 @@ public final class SearchTest {
     public static void main(String[] arguments) {
         shortest();
         orders();
+        oneChoice();
         tooMany();
         wrongSearches();
         walks();
@@ -69,6 +70,16 @@ public final class SearchTest {
         p.shortest(named, 1);
         Check.due(34, "d is a register that is named", "m1r2", () -> Check.told(p, 9));
         Check.due(34, "another program each time", 10, () -> p.shortest(named, 1));
+    }
+
+    private static void oneChoice() {
+        Peepholery p = Check.bench(3, 0);
+        Check.formula(p, 0, "A~");
+        allowOnly(p, "c");
+        p.shortest(0, 3);
+        Check.due(34, "one instruction can be taken", "c0", () -> Check.told(p, 0));
+        allowOnly(p, "g");
+        Check.due(34, "another one", Check.NONE, () -> p.shortest(0, 3));
     }
 
     private static void tooMany() {

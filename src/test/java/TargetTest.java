@@ -117,6 +117,11 @@ public final class TargetTest {
         p.put(4);
         Check.due(30, "not below the modulus", Check.UNSUPPORTED, () -> p.table(0));
         p.wipe();
+        for (int number : new int[] {4, 0, 0, 0}) {
+            p.put(number);
+        }
+        Check.due(30, "the first one is not below the modulus", Check.UNSUPPORTED, () -> p.table(0));
+        p.wipe();
         Check.due(30, "taken", 0, () -> Check.table(p, 0, 3, 0, 1, 2));
         Check.due(30, "is emptied", 0, p::wipe);
         int less = Check.code(p, 0, "s0#1");

@@ -177,7 +177,7 @@ public final class TermTest {
             q.term('~', i - 1, 0);
         }
         Check.due(50, "room for the product alone", 59, () -> q.law('t'));
-        Check.due(47, "the product", 59, () -> q.term('*', 0, 1));
+        Check.due(49, "the product was added, and joined", 2, () -> q.classOf(q.term('*', 0, 1)));
     }
 
     private static void costs() {
@@ -252,6 +252,11 @@ public final class TermTest {
         }
         Check.due(54, "2 bits", 3, () -> p.value(10, 2, 0, 3, 2));
         Check.due(54, "5 bits", 31, () -> p.value(4, 5, 30, 1, 2));
+        Peepholery q = terms("A ~0 ~1 ~2 B -4 ~3 ~6");
+        q.join(3, 5);
+        Check.due(54, "parts of higher numbers", 5, () -> q.value(3, 3, 1, 3, 0));
+        Check.due(54, "and what is made of them", 2, () -> q.value(6, 3, 1, 3, 0));
+        Check.due(54, "and of that", 5, () -> q.value(7, 3, 1, 3, 0));
         p.join(10, 1);
         Check.due(54, "the best tree of its class", 3, () -> p.value(10, 3, 5, 3, 6));
     }
