@@ -100,7 +100,7 @@ public final class Peepholery {
         if (!made.machine.knows(number) || d < 0 || d > 2) {
             throw new IllegalArgumentException();
         }
-        if (Instruction.hasSource(number) && !made.machine.hasSource(isConstant, s)) {
+        if (Instruction.hasSource(number) && !made.machine.isSource(isConstant, s)) {
             throw new IllegalArgumentException();
         }
         if (made.code.hasLoop) {
@@ -915,6 +915,7 @@ public final class Peepholery {
             return instruction & 31;
         }
 
+        /** The letters without a source of a meaning stand side by side. */
         static boolean hasSource(int letter) {
             return letter < TURN || letter > RIGHT;
         }
@@ -993,7 +994,7 @@ public final class Peepholery {
             return word >= 0 && word < modulus;
         }
 
-        boolean hasSource(boolean isConstant, int s) {
+        boolean isSource(boolean isConstant, int s) {
             return isConstant ? isWord(s) : s >= 0 && s <= 2;
         }
 

@@ -90,6 +90,10 @@ public final class RunTest {
         Check.due(17, "no cell", Check.NONE, () -> p.cell(-1));
         p.run(two, 0, 0, 0, false);
         Check.due(14, "cells are 0 at first", 0, () -> p.cell(0));
+        p.run(two, 5, 6, 4, false);
+        p.run(Check.code(p, 0, "c0"), 5, 6, 4, false);
+        Check.due(14, "cells are 0 at first", 0, () -> p.cell(0));
+        Check.due(14, "cells are 0 at first", 0, () -> p.cell(1));
         int one = Check.code(p, 1, "S0#1 L1#7");
         p.run(one, 5, 6, 4, false);
         Check.due(17, "one cell", 5, () -> p.cell(0));

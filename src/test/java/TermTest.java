@@ -172,6 +172,12 @@ public final class TermTest {
         Check.due(47, "is there", 2, () -> p.term('+', 0, 0));
         Check.due(50, "no room for it turned about", 59, () -> p.law('c'));
         Check.due(49, "as it was", 4, () -> p.classOf(4));
+        Peepholery r = terms("A +00");
+        for (int i = 2; i < 58; i++) {
+            r.term('~', i - 1, 0);
+        }
+        Check.due(50, "just room for 2 and the product", 59, () -> r.law('t'));
+        Check.due(50, "both were added", 1, () -> r.classOf(r.term('*', 0, r.leaf('2'))));
         Peepholery q = terms("A 2 +00");
         for (int i = 3; i < 59; i++) {
             q.term('~', i - 1, 0);
@@ -250,6 +256,7 @@ public final class TermTest {
             int term = i;
             Check.due(54, "term " + i, due[i], () -> p.value(term, 3, 5, 3, 6));
         }
+        Check.due(54, "9 modulo 8", 1, () -> p.value(3, 3, 6, 3, 6));
         Check.due(54, "2 bits", 3, () -> p.value(10, 2, 0, 3, 2));
         Check.due(54, "5 bits", 31, () -> p.value(4, 5, 30, 1, 2));
         Peepholery q = terms("A ~0 ~1 ~2 B -4 ~3 ~6");
