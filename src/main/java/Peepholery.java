@@ -12,6 +12,7 @@ public final class Peepholery {
     private static final int MOST_REWRITES = 50;
     private static final int MOST_SHIFT = 10;
     private static final int MOST_WINDOW = 4;
+    private static final long MOST_COST = 2147483647L;
 
     private final List<Machine> machines = new ArrayList<Machine>();
     private final List<Program> programs = new ArrayList<Program>();
@@ -593,7 +594,7 @@ public final class Peepholery {
         refuseUnlessTerm(x);
         terms.reckon();
         // A tree of sixty terms that double each other has more operators than an int can tell.
-        return (int) Math.min(terms.classCost(x), Integer.MAX_VALUE);
+        return (int) Math.min(terms.classCost(x), MOST_COST);
     }
 
     public int best(int x) throws IndexOutOfBoundsException {

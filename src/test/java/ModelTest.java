@@ -259,7 +259,10 @@ public final class ModelTest {
         try {
             return method.invoke(object, arguments);
         } catch (InvocationTargetException e) {
-            return e.getCause().getClass();
+            // What the library throws on a wrong index has the same class, and is no answer.
+            StackTraceElement[] trace = e.getCause().getStackTrace();
+            boolean isThrown = trace.length > 0 && !trace[0].getClassName().startsWith("java");
+            return isThrown ? e.getCause().getClass() : e.getCause();
         }
     }
 }
