@@ -385,7 +385,7 @@ public final class TermBoundsTest {
     private static void costs() {
         Peepholery p = new Peepholery();
         p.leaf('A');
-        for (int i = 1; i < 32; i++) {
+        for (int i = 1; i < 60; i++) {
             p.term('+', i - 1, i - 1);
         }
         for (int i = 0; i < 31; i++) {
@@ -393,6 +393,8 @@ public final class TermBoundsTest {
             Check.due(51, i + " doublings", (1 << number) - 1, () -> p.cost(number));
         }
         Check.due(51, "31 doublings are as many as an int can tell", Integer.MAX_VALUE, () -> p.cost(31));
+        Check.due(51, "32 doublings are more", Integer.MAX_VALUE, () -> p.cost(32));
+        Check.due(51, "59 doublings are more", Integer.MAX_VALUE, () -> p.cost(59));
         Check.due(54, "31 doublings on 5 bits", 0, () -> p.value(31, 5, 1, 0, 0));
         Check.due(54, "4 doublings on 5 bits", 16, () -> p.value(4, 5, 1, 0, 0));
         Check.due(54, "5 doublings on 5 bits", 0, () -> p.value(5, 5, 1, 0, 0));
